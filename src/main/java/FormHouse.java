@@ -18,13 +18,14 @@ public final class FormHouse {
     // The greatest unit has 7825 bits, and two such numbers are multiplied.
     private static final int MOST_WORDS = 544;
 
-    private static final int ENTRIES = 4;
-    private static final int UNIT = 4;
-    private static final int AUTOMORPH = 8;
-    private static final int TOLD = 12;
+    private static final int FIRST_UNIT = 4;
+    private static final int FIRST_AUTOMORPH = 8;
+    private static final int FIRST_TOLD = 12;
 
     private static final int KEY_SHIFT = 12;
     private static final int KEY_HALF = 2048;
+    // Above the root of each number that is taken apart.
+    private static final int MOST_TRIED = 2048;
     private static final int MANY_STEPS = 1000;
     private static final long LOW = 0xFFFFFFFFL;
 
@@ -36,7 +37,7 @@ public final class FormHouse {
     private final Families families = new Families();
     private final int[] primes = new int[MOST_PRIMES];
     private final int[] tellerList = new int[MOST_CLASSES];
-    private final boolean[] told = new boolean[MOST_CLASSES];
+    private final boolean[] isTeller = new boolean[MOST_CLASSES];
     private final Big lent = new Big();
     private int primeCount;
     private int tellerCount;
@@ -193,7 +194,7 @@ public final class FormHouse {
         markTellers(n);
         tellerCount = 0;
         for (int k = 0; k < classes.many; k++) {
-            if (told[k]) {
+            if (isTeller[k]) {
                 tellerList[tellerCount] = k;
                 tellerCount++;
             }
@@ -253,7 +254,7 @@ public final class FormHouse {
     private void findPrimes(int d) {
         int left = Math.abs(d) >> Integer.numberOfTrailingZeros(d);
         primeCount = 0;
-        for (int p = 3; p * p <= left && p < KEY_HALF; p += 2) {
+        for (int p = 3; p * p <= left && p < MOST_TRIED; p += 2) {
             if (left % p == 0) {
                 addPrime(p);
                 left = without(left, p);
@@ -273,7 +274,7 @@ public final class FormHouse {
 
     private void markTellers(int n) {
         for (int k = 0; k < classes.many; k++) {
-            told[k] = false;
+            isTeller[k] = false;
         }
         if (classes.d < 0 && n < 0) {
             return;
@@ -282,27 +283,27 @@ public final class FormHouse {
         for (int i = 0; i < roots.many; i++) {
             int k = classes.primitiveClass(n, roots.list[i]);
             if (classes.has(k)) {
-                told[k] = true;
+                isTeller[k] = true;
             }
         }
     }
 
     private boolean hasNumber(int i) {
-        return i >= 0 && i < TOLD + 2 * families.many;
+        return i >= 0 && i < FIRST_TOLD + 2 * families.many;
     }
 
     private Big number(int i) {
-        if (i < ENTRIES) {
+        if (i < FIRST_UNIT) {
             return hand.entry(classes, i);
         }
-        if (i < AUTOMORPH) {
-            return units.prepare(classes).get(i - UNIT);
+        if (i < FIRST_AUTOMORPH) {
+            return units.prepare(classes).get(i - FIRST_UNIT);
         }
-        if (i < TOLD) {
-            hand.automorph(i - AUTOMORPH, units.prepare(classes), lent);
+        if (i < FIRST_TOLD) {
+            hand.automorph(i - FIRST_AUTOMORPH, units.prepare(classes), lent);
             return lent;
         }
-        Point point = families.tell((i - TOLD) / 2, classes, hand, units.prepare(classes));
+        Point point = families.tell((i - FIRST_TOLD) / 2, classes, hand, units.prepare(classes));
         return (i & 1) == 0 ? point.x : point.y;
     }
 
@@ -799,7 +800,7 @@ public final class FormHouse {
         }
 
         private void gatherBelow() {
-            for (int a = 1; a < KEY_HALF && 3 * a * a <= -d; a++) {
+            for (int a = 1; a < MOST_TRIED && 3 * a * a <= -d; a++) {
                 int first = 1 - a + ((1 - a - d) & 1);
                 for (int b = first; b <= a; b += 2) {
                     gather(a, b);
@@ -1077,7 +1078,7 @@ public final class FormHouse {
             list[0] = d & 1;
             many = 1;
             int left = m;
-            for (int p = 2; left > 1 && many > 0 && p <= KEY_HALF; p++) {
+            for (int p = 2; left > 1 && many > 0 && p < MOST_TRIED; p++) {
                 // What no p up to its root goes into is a prime.
                 int prime = p * p > left ? left : p;
                 if (left % prime == 0) {
