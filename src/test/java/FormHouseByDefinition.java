@@ -1,44 +1,51 @@
 import java.math.BigInteger;
 import java.util.ArrayList;
 import java.util.HashMap;
-import java.util.HashSet;
 import java.util.List;
 import java.util.Map;
 import java.util.Set;
-import java.util.TreeMap;
+import java.util.TreeSet;
 
 /** Compares answers with what the document's terms say when they are followed by plain search. */
 public final class FormHouseByDefinition {
+    private static final BigInteger ONE = BigInteger.ONE;
+    private static final BigInteger ZERO = BigInteger.ZERO;
+
     private static int wrong = 0;
     private static long seed = 20261115;
 
     private final int d;
-    private final FormHouse house;
+    private final House house = new House();
     private final List<long[]> names = new ArrayList<>();
-    private final Map<String, Integer> classes = new HashMap<>();
+    private final Map<Long, Integer> classes = new HashMap<>();
     private int reducedCount;
     private int principal;
     private BigInteger[] unit;
 
-    private FormHouseByDefinition(int d, FormHouse house) {
+    private FormHouseByDefinition(int d) {
         this.d = d;
-        this.house = house;
     }
 
     public static void main(String[] args) {
-        FormHouse house = new FormHouse();
-        new FormHouseByDefinition(-4, house).checkAll();
+        new FormHouseByDefinition(-4).check();
         for (int d = -330; d <= 330; d++) {
-            if (canBe(d)) {
-                new FormHouseByDefinition(d, new FormHouse()).takeAndCheck();
-            }
+            takeAndCheck(d);
         }
-        int[] more = {-3299, -3896, -4027, -9748, -11199, -5460, -12104, -27 * 81, -4096, -16 * 225, -30 * 4 * 49,
-            1596, 2920, 3221, 4481, 4 * 1297, 12180, 9 * 229, 25 * 401, 64 * 65, 4 * 729 * 2, 10001, 99 * 99 * 4 - 4};
-        for (int extra : more) {
-            if (canBe(extra)) {
-                new FormHouseByDefinition(extra, new FormHouse()).takeAndCheck();
-            }
+        int[] chosen = {-3299, -3896, -4027, -9748, -11199, -5460, -12104, -27 * 81, -4096, -16 * 225, -30 * 4 * 49,
+            1596, 2920, 3221, 4481, 4 * 1297, 12180, 9 * 229, 25 * 401, 64 * 65, 4 * 729 * 2, 10001, 99 * 99 * 4 - 4,
+            -1048576, -1048575, -1048572, -1048571, 1048572, 1048573, 1048569, 1048568, 1020 * 1020 + 4,
+            -1036031, -1021020, 1007161, 1021020, -3 * 512 * 512, 5 * 448 * 448, -4 * 255255, 1000 * 1000 + 1};
+        for (int d : chosen) {
+            takeAndCheck(d);
+        }
+        for (int i = 0; i < 120; i++) {
+            int bound = i % 3 == 0 ? 5000 : i % 3 == 1 ? 100000 : 1048576;
+            takeAndCheck(random(-bound, bound));
+        }
+        for (int i = 0; i < 40; i++) {
+            // With great squares in it: there forms with more than 1 in common are many.
+            int f = random(2, 120);
+            takeAndCheck(f * f * random(-1048576 / f / f, 1048576 / f / f));
         }
         System.out.println(wrong == 0 ? "all answers follow from the terms" : wrong + " answers don't follow from the terms");
         if (wrong != 0) {
@@ -46,16 +53,19 @@ public final class FormHouseByDefinition {
         }
     }
 
+    private static void takeAndCheck(int d) {
+        if (!canBe(d)) {
+            return;
+        }
+        FormHouseByDefinition at = new FormHouseByDefinition(d);
+        int many = at.house.take(d);
+        at.check();
+        at.due("take", many, at.names.size());
+    }
+
     private static boolean canBe(int d) {
-        if (Math.floorMod(d, 4) > 1) {
-            return false;
-        }
-        for (int r = 0; r * r <= d; r++) {
-            if (r * r == d) {
-                return false;
-            }
-        }
-        return true;
+        int r = d < 0 ? 0 : (int) Math.sqrt(d);
+        return Math.floorMod(d, 4) < 2 && r * r != d && (r + 1) * (r + 1) != d;
     }
 
     private void due(String call, Object got, Object want) {
@@ -72,18 +82,8 @@ public final class FormHouseByDefinition {
         return from + (int) Long.remainderUnsigned(seed >>> 16, to - from + 1L);
     }
 
-    private void takeAndCheck() {
-        findClasses();
-        due("take", house.take(d), names.size());
-        check();
-    }
-
-    private void checkAll() {
-        findClasses();
-        check();
-    }
-
     private void check() {
+        findClasses();
         findUnit();
         checkCounts();
         checkNames();
@@ -96,11 +96,92 @@ public final class FormHouseByDefinition {
             long[] form = randomForm();
             due("ask", house.ask((int) form[0], (int) form[1], (int) form[2]), classOf(form));
             checkHand(form);
-            due("count(12)", house.count(12), 0);
-            due("count(13)", house.count(13), 0);
-            int n = random(0, 3) == 0 ? new int[] {720, 900, 441, 1225, 64, 729}[random(0, 5)] : random(1, 300);
-            checkSolutions(form, d > 0 && random(0, 1) == 0 ? -n : n);
-            checkTellers(d > 0 && random(0, 1) == 0 ? -n : n);
+            due("count(12)", house.get().count(12), 0);
+            due("count(13)", house.get().count(13), 0);
+            for (int j = 0; j < 3; j++) {
+                checkSolutions(form, numberToSolve(form));
+                checkTellers(numberToSolve(form));
+            }
+        }
+    }
+
+    /** Often one to which the form comes, or one that many squares go into. */
+    private int numberToSolve(long[] f) {
+        int[] squares = {1, 2, 36, 64, 720, 729, 900, 441, 1225, 14400, 44100, 5184, 1000000, 999999, 720720};
+        int how = random(0, 2);
+        int n = how == 0 ? squares[random(0, squares.length - 1)] : random(1, 3000);
+        if (how == 1) {
+            long[] name = names.get(classOf(f));
+            int g = random(1, 6);
+            int x = g * random(-4, 4);
+            int y = g * random(-4, 4);
+            n = (int) (name[0] * x * x + name[1] * x * y + name[2] * y * y);
+        } else if (d > 0 && random(0, 1) == 0) {
+            n = -n;
+        }
+        return n == 0 || Math.abs(n) > 1000000 ? random(1, 300) : n;
+    }
+
+    /** A house that is made anew, with what was taken, asked, solved and told, ahead of the 512th call. */
+    private static final class House {
+        private FormHouse now = new FormHouse();
+        private int calls;
+        private int[] taken;
+        private int[] asked;
+        private int[] solved;
+        private int[] told;
+
+        FormHouse get() {
+            if (calls == 512) {
+                now = new FormHouse();
+                calls = 0;
+                redo();
+            }
+            calls++;
+            return now;
+        }
+
+        private void redo() {
+            if (taken != null) {
+                calls++;
+                now.take(taken[0]);
+            }
+            if (asked != null) {
+                calls++;
+                now.ask(asked[0], asked[1], asked[2]);
+            }
+            if (solved != null) {
+                calls++;
+                now.solve(solved[0]);
+            }
+            if (told != null) {
+                calls++;
+                now.tellers(told[0]);
+            }
+        }
+
+        int take(int d) {
+            taken = new int[] {d};
+            return get().take(d);
+        }
+
+        int ask(int a, int b, int c) {
+            int kind = get().ask(a, b, c);
+            asked = new int[] {a, b, c};
+            solved = null;
+            return kind;
+        }
+
+        int solve(int n) {
+            int many = get().solve(n);
+            solved = new int[] {n};
+            return many;
+        }
+
+        int tellers(int n) {
+            int many = get().tellers(n);
+            told = new int[] {n};
+            return many;
         }
     }
 
@@ -133,8 +214,12 @@ public final class FormHouseByDefinition {
         return new long[] {f[2], e, (e * e - d) / (4 * f[2]), (f[1] + e) / (2 * f[2])};
     }
 
-    private static String key(long[] f) {
-        return f[0] + " " + f[1];
+    private static long key(long[] f) {
+        return f[0] * 1000000007L + f[1];
+    }
+
+    private long[] formOf(long a, long b) {
+        return new long[] {a, b, (b * b - d) / (4 * a)};
     }
 
     private void findClasses() {
@@ -146,7 +231,7 @@ public final class FormHouseByDefinition {
         for (long a = -top; a <= top; a++) {
             for (long b = -top; a != 0 && b <= top; b++) {
                 if ((b * b - d) % (4 * a) == 0) {
-                    long[] f = {a, b, (b * b - d) / (4 * a)};
+                    long[] f = formOf(a, b);
                     if ((d > 0 || a > 0) && common(common(a, b), f[2]) == 1 && isReduced(f)) {
                         reduced.add(f);
                     }
@@ -161,7 +246,7 @@ public final class FormHouseByDefinition {
                 do {
                     classes.put(key(at), names.size());
                     at = next(at);
-                } while (d > 0 && !key(at).equals(key(f)));
+                } while (d > 0 && key(at) != key(f));
                 names.add(f);
             }
         }
@@ -177,25 +262,30 @@ public final class FormHouseByDefinition {
         return classes.get(key(at));
     }
 
+    private int someClass() {
+        return random(0, names.size() - 1);
+    }
+
     private void checkCounts() {
-        due("count(0)", house.count(0), d);
-        due("count(1)", house.count(1), names.size());
-        due("count(3)", house.count(3), principal);
-        due("count(5)", house.count(5), reducedCount);
+        due("count(0)", house.get().count(0), d);
+        due("count(1)", house.get().count(1), names.size());
+        due("count(3)", house.get().count(3), principal);
+        due("count(5)", house.get().count(5), reducedCount);
         int units = 0;
         for (int t = -2; t <= 2; t++) {
             for (int u = -2; u <= 2; u++) {
-                units += t * t - d * u * u == 4 ? 1 : 0;
+                units += (long) t * t - (long) d * u * u == 4 ? 1 : 0;
             }
         }
-        due("count(7)", house.count(7), d < 0 ? units : -1);
-        due("count(8)", house.count(8), unit[2].signum());
+        due("count(7)", house.get().count(7), d < 0 ? units : -1);
+        due("count(8)", house.get().count(8), unit[2].signum());
     }
 
     private void checkNames() {
-        for (int k = 0; k < names.size() && k < 20; k++) {
+        for (int i = 0; i < 24; i++) {
+            int k = names.size() <= 24 ? Math.min(i, names.size() - 1) : someClass();
             for (int what = 0; what < 3; what++) {
-                due("name(" + k + ", " + what + ")", house.name(k, what), (int) names.get(k)[what]);
+                due("name(" + k + ", " + what + ")", house.get().name(k, what), (int) names.get(k)[what]);
             }
         }
     }
@@ -207,86 +297,114 @@ public final class FormHouseByDefinition {
         long[] h = names.get(k);
         long g = common(common(f[0], h[0]), (f[1] + h[1]) / 2);
         long a = f[0] * h[0] / (g * g);
-        for (long b = 0; ; b++) {
-            if ((b - f[1]) % (2 * f[0] / g) == 0 && (b - h[1]) % (2 * h[0] / g) == 0
+        for (long b = f[1]; ; b += 2 * f[0] / g) {
+            if ((b - h[1]) % (2 * h[0] / g) == 0
                     && ((f[1] + h[1]) / (2 * g) * b - (f[1] * h[1] + d) / (2 * g)) % (2 * a) == 0) {
-                return classOf(new long[] {a, b, (b * b - d) / (4 * a)});
+                return classOf(formOf(a, b));
             }
         }
     }
 
-    private List<Integer> powers(int k) {
+    private int power(int k, int n) {
+        int answer = principal;
+        int base = k;
+        for (int left = n; left > 0; left /= 2) {
+            answer = left % 2 == 1 ? product(answer, base) : answer;
+            base = product(base, base);
+        }
+        return answer;
+    }
+
+    /** From the number of classes, of which each prime is taken away as often as can be. */
+    private int orderOf(int k) {
+        int order = names.size();
+        for (int p : primesIn(names.size())) {
+            while (order % p == 0 && power(k, order / p) == principal) {
+                order /= p;
+            }
+        }
+        return order;
+    }
+
+    private static List<Integer> primesIn(int n) {
         List<Integer> all = new ArrayList<>();
-        int at = principal;
-        do {
-            all.add(at);
-            at = product(at, k);
-        } while (at != principal);
+        for (int p = 2; p <= n; p++) {
+            if (n % p == 0 && isPrime(p)) {
+                all.add(p);
+            }
+        }
         return all;
     }
 
     private void checkGroup() {
-        List<List<Integer>> powers = new ArrayList<>();
+        int[] orders = new int[names.size()];
         int greatest = 1;
         for (int k = 0; k < names.size(); k++) {
-            powers.add(powers(k));
-            greatest = Math.max(greatest, powers.get(k).size());
+            orders[k] = orderOf(k);
+            greatest = Math.max(greatest, orders[k]);
         }
-        due("count(4)", house.count(4), greatest);
-        checkGenerators(powers);
+        due("count(4)", house.get().count(4), greatest);
+        checkGenerators(orders);
         for (int i = 0; i < 12; i++) {
-            int k = random(0, names.size() - 1);
-            int j = random(0, names.size() - 1);
+            int k = someClass();
+            int j = someClass();
             int n = random(-100, 100);
-            List<Integer> all = powers.get(k);
-            due("product(" + j + ", " + k + ")", house.product(j, k), product(j, k));
-            due("order(" + k + ")", house.order(k), all.size());
-            due("inverse(" + k + ")", house.inverse(k), all.get(all.size() - 1));
-            due("power(" + k + ", " + n + ")", house.power(k, n), all.get(Math.floorMod(n, all.size())));
+            due("product(" + j + ", " + k + ")", house.get().product(j, k), product(j, k));
+            due("order(" + k + ")", house.get().order(k), orders[k]);
+            due("inverse(" + k + ")", house.get().inverse(k), power(k, orders[k] - 1));
+            due("power(" + k + ", " + n + ")", house.get().power(k, n), power(k, Math.floorMod(n, orders[k])));
         }
     }
 
-    private void checkGenerators(List<List<Integer>> powers) {
+    private void checkGenerators(int[] orders) {
         Map<Integer, List<Integer>> made = new HashMap<>();
         made.put(principal, new ArrayList<>());
         int count = 0;
-        int best = bestApart(powers, made.keySet());
+        int best = bestApart(orders, made.keySet());
         while (best >= 0) {
-            due("generator(" + count + ")", house.generator(count), best);
+            due("generator(" + count + ")", house.get().generator(count), best);
             Map<Integer, List<Integer>> more = new HashMap<>();
             for (int k : made.keySet()) {
-                for (int n = 0; n < powers.get(best).size(); n++) {
+                int at = k;
+                for (int n = 0; n < orders[best]; n++) {
                     List<Integer> exponents = new ArrayList<>(made.get(k));
                     exponents.add(n);
-                    more.put(product(k, powers.get(best).get(n)), exponents);
+                    more.put(at, exponents);
+                    at = product(at, best);
                 }
             }
             made = more;
             count++;
-            best = bestApart(powers, made.keySet());
+            best = bestApart(orders, made.keySet());
         }
-        due("count(2)", house.count(2), count);
+        due("count(2)", house.get().count(2), count);
         due("classes that the generators make", made.size(), names.size());
         for (int i = 0; i < 12; i++) {
-            int k = random(0, names.size() - 1);
+            int k = someClass();
             for (int j = 0; j < count; j++) {
-                due("exponent(" + k + ", " + j + ")", house.exponent(k, j), made.get(k).get(j));
+                due("exponent(" + k + ", " + j + ")", house.get().exponent(k, j), made.get(k).get(j));
             }
         }
     }
 
-    private int bestApart(List<List<Integer>> powers, Set<Integer> made) {
+    private int bestApart(int[] orders, Set<Integer> made) {
         int best = -1;
         for (int k = 0; k < names.size(); k++) {
-            boolean apart = k != principal;
-            for (int n = 1; n < powers.get(k).size(); n++) {
-                apart = apart && !made.contains(powers.get(k).get(n));
-            }
-            if (apart && (best < 0 || powers.get(k).size() > powers.get(best).size())) {
+            if (k != principal && (best < 0 || orders[k] > orders[best]) && isApart(k, orders[k], made)) {
                 best = k;
             }
         }
         return best;
+    }
+
+    /** If a power but the principal class is made, then so is one whose order is a prime. */
+    private boolean isApart(int k, int order, Set<Integer> made) {
+        for (int p : primesIn(order)) {
+            if (made.contains(power(k, order / p))) {
+                return false;
+            }
+        }
+        return true;
     }
 
     // Characters and symbols
@@ -295,16 +413,19 @@ public final class FormHouseByDefinition {
         int count = 0;
         for (int p = 3; p <= Math.abs(d); p += 2) {
             if (d % p == 0 && isPrime(p)) {
-                due("prime(" + count + ")", house.prime(count), p);
-                int k = random(0, names.size() - 1);
-                due("character(" + k + ", " + count + ")", house.character(k, count), characterOf(k, p));
+                due("prime(" + count + ")", house.get().prime(count), p);
+                for (int i = 0; i < 3; i++) {
+                    int k = someClass();
+                    due("character(" + k + ", " + count + ")", house.get().character(k, count), characterOf(k, p));
+                }
                 count++;
             }
         }
-        due("count(6)", house.count(6), count);
+        due("count(6)", house.get().count(6), count);
         for (int i = 0; i < 8; i++) {
-            int n = random(-400, 400);
-            due("kronecker(" + n + ")", house.kronecker(n), kronecker(n));
+            int bound = i < 4 ? 400 : 4194304;
+            int n = random(-bound, bound);
+            due("kronecker(" + n + ")", house.get().kronecker(n), kronecker(n));
         }
     }
 
@@ -313,7 +434,7 @@ public final class FormHouseByDefinition {
         while (true) {
             long x = random(-p, p);
             long y = random(-p, p);
-            long n = f[0] * x * x + f[1] * x * y + f[2] * y * y;
+            long n = (f[0] * x + f[1] * y) % p * x + f[2] * y % p * y;
             if (n % p != 0) {
                 return squareSign(n, p);
             }
@@ -324,7 +445,7 @@ public final class FormHouseByDefinition {
         if (n % p == 0) {
             return 0;
         }
-        for (long x = 1; x < p; x++) {
+        for (long x = 1; 2 * x <= p; x++) {
             if ((x * x - n) % p == 0) {
                 return 1;
             }
@@ -370,20 +491,19 @@ public final class FormHouseByDefinition {
 
     /** By the continued fraction of (e + R) / 2, of which each such unit is a convergent. */
     private void findUnit() {
-        BigInteger none = BigInteger.ZERO;
         if (d < 0) {
-            unit = new BigInteger[] {big(d == -3 ? 1 : d == -4 ? 0 : 2), big(d >= -4 ? 1 : 0), none, none};
+            unit = new BigInteger[] {big(d == -3 ? 1 : d == -4 ? 0 : 2), big(d >= -4 ? 1 : 0), ZERO, ZERO};
             return;
         }
-        unit = new BigInteger[] {none, none, none, none};
+        unit = new BigInteger[] {ZERO, ZERO, ZERO, ZERO};
         long floor = (long) Math.sqrt(d);
         int e = d & 1;
         long above = e;
         long below = 2;
-        BigInteger p = BigInteger.ONE;
-        BigInteger oldP = none;
-        BigInteger q = none;
-        BigInteger oldQ = BigInteger.ONE;
+        BigInteger p = ONE;
+        BigInteger oldP = ZERO;
+        BigInteger q = ZERO;
+        BigInteger oldQ = ONE;
         while (unit[0].signum() == 0) {
             long part = (above + floor) / below;
             BigInteger newP = p.multiply(big(part)).add(oldP);
@@ -392,31 +512,35 @@ public final class FormHouseByDefinition {
             p = newP;
             oldQ = q;
             q = newQ;
-            BigInteger t = p.shiftLeft(1).subtract(q.multiply(big(e)));
-            BigInteger four = t.multiply(t).subtract(q.multiply(q).multiply(big(d)));
-            if (four.equals(big(4))) {
-                unit[0] = t;
-                unit[1] = q;
-            } else if (four.equals(big(-4)) && unit[2].signum() == 0) {
-                unit[2] = t;
-                unit[3] = q;
-            }
+            keepUnit(p.shiftLeft(1).subtract(q.multiply(big(e))), q);
             above = part * below - above;
             below = (d - above * above) / below;
         }
     }
 
+    private void keepUnit(BigInteger t, BigInteger u) {
+        BigInteger four = t.multiply(t).subtract(u.multiply(u).multiply(big(d)));
+        if (four.equals(big(4))) {
+            unit[0] = t;
+            unit[1] = u;
+        } else if (four.equals(big(-4)) && unit[2].signum() == 0) {
+            unit[2] = t;
+            unit[3] = u;
+        }
+    }
+
     private BigInteger number(int i) {
-        int bits = house.bits(i);
-        BigInteger size = BigInteger.ZERO;
+        int bits = house.get().bits(i);
+        BigInteger size = ZERO;
         for (int k = (bits + 31) / 32; k >= 0; k--) {
-            size = size.shiftLeft(32).add(big(house.word(i, k) & 0xFFFFFFFFL));
+            size = size.shiftLeft(32).add(big(house.get().word(i, k) & 0xFFFFFFFFL));
         }
         due("bits(" + i + ")", bits, size.bitLength());
-        BigInteger all = house.sign(i) < 0 ? size.negate() : size;
-        due("sign(" + i + ")", house.sign(i), all.signum());
-        int m = random(1, 2147483647);
-        due("residue(" + i + ", " + m + ")", house.residue(i, m), all.mod(big(m)).intValue());
+        int sign = house.get().sign(i);
+        BigInteger all = sign < 0 ? size.negate() : size;
+        due("sign(" + i + ")", sign, all.signum());
+        int m = random(0, 1) == 0 ? random(1, 100) : random(1, 2147483647);
+        due("residue(" + i + ", " + m + ")", house.get().residue(i, m), all.mod(big(m)).intValue());
         return all;
     }
 
@@ -429,8 +553,8 @@ public final class FormHouseByDefinition {
     // The form at hand
 
     private long[] randomForm() {
-        long[] f = names.get(random(0, names.size() - 1));
-        for (int i = random(0, 3) == 0 ? 60 : random(0, 6); i > 0; i--) {
+        long[] f = names.get(someClass());
+        for (int i = random(0, 2) == 0 ? 60 : random(0, 6); i > 0; i--) {
             long k = random(-4, 4);
             long[] g = random(0, 1) == 0
                 ? new long[] {f[0], f[1] + 2 * f[0] * k, f[0] * k * k + f[1] * k + f[2]}
@@ -444,21 +568,24 @@ public final class FormHouseByDefinition {
     }
 
     private void checkHand(long[] form) {
-        BigInteger[] m = {BigInteger.ONE, BigInteger.ZERO, BigInteger.ZERO, BigInteger.ONE};
+        BigInteger[] m = {ONE, ZERO, ZERO, ONE};
         int steps = 0;
-        int early = 0;
+        int early = -1;
         long[] at = form;
         int k = classOf(form);
-        while (!isReduced(at) || !key(at).equals(key(names.get(k)))) {
-            early += isReduced(at) || early < steps ? 0 : 1;
+        while (early < 0 || key(at) != key(names.get(k))) {
+            if (early < 0 && isReduced(at)) {
+                early = steps;
+                continue;
+            }
             at = next(at);
             BigInteger turn = big(at[3]);
             m = new BigInteger[] {m[1], m[1].multiply(turn).subtract(m[0]), m[3], m[3].multiply(turn).subtract(m[2])};
             steps++;
         }
-        due("count(9)", house.count(9), k);
-        due("count(10)", house.count(10), steps);
-        due("count(11)", house.count(11), early);
+        due("count(9)", house.get().count(9), k);
+        due("count(10)", house.get().count(10), steps);
+        due("count(11)", house.get().count(11), early);
         BigInteger[] matrix = {m[3], m[1].negate(), m[2].negate(), m[0]};
         BigInteger[] automorph = automorph(form);
         for (int i = 0; i < 4; i++) {
@@ -466,7 +593,7 @@ public final class FormHouseByDefinition {
             due("number " + (8 + i), number(8 + i), automorph[i]);
         }
         for (int what = 0; what < 3; what++) {
-            due("form(" + what + ")", house.form(what), (int) form[what]);
+            due("form(" + what + ")", house.get().form(what), (int) form[what]);
         }
     }
 
@@ -482,11 +609,12 @@ public final class FormHouseByDefinition {
 
     private List<int[]> families(long[] form, int n) {
         List<int[]> all = new ArrayList<>();
+        int kind = classOf(form);
         for (int g = 1; g * g <= Math.abs(n); g++) {
             if (n % (g * g) == 0) {
                 int m = n / (g * g);
                 for (int b : rootsOf(m)) {
-                    if (classOf(new long[] {m, b, ((long) b * b - d) / (4L * m)}) == classOf(form)) {
+                    if (classOf(formOf(m, b)) == kind) {
                         all.add(new int[] {g, b});
                     }
                 }
@@ -497,9 +625,11 @@ public final class FormHouseByDefinition {
 
     private List<Integer> rootsOf(int m) {
         List<Integer> all = new ArrayList<>();
-        for (int b = 0; b < 2 * Math.abs(m) && (d > 0 || m > 0); b++) {
+        long four = 4L * Math.abs(m);
+        // D is like b modulo 2.
+        for (int b = d & 1; b < 2 * Math.abs(m) && (d > 0 || m > 0); b += 2) {
             long rest = (long) b * b - d;
-            if (rest % (4L * m) == 0 && common(common(m, b), rest / (4L * m)) == 1) {
+            if (rest % four == 0 && common(common(m, b), rest / four) == 1) {
                 all.add(b);
             }
         }
@@ -508,108 +638,110 @@ public final class FormHouseByDefinition {
 
     private void checkSolutions(long[] form, int n) {
         List<int[]> families = families(form, n);
+        if (families.size() > 256) {
+            checkTooMany(n);
+            return;
+        }
         due("solve(" + n + ")", house.solve(n), families.size());
-        due("count(12)", house.count(12), families.size());
-        due("count(13)", house.count(13), n);
-        Map<String, long[]> told = search(form, n);
-        for (int i = 0; i < families.size() && i < 8; i++) {
-            int[] family = families.get(i);
-            due("divisor(" + i + ")", house.divisor(i), family[0]);
-            due("root(" + i + ")", house.root(i), family[1]);
-            BigInteger x = number(12 + 2 * i);
-            BigInteger y = number(13 + 2 * i);
-            if (told != null) {
-                long[] due = told.get(family[0] + " " + family[1]);
-                due("family " + i + " of " + n, x + " " + y, due == null ? "none" : due[0] + " " + due[1]);
-            }
-            checkTold(form, n, x, y);
-        }
-        if (told != null) {
-            due("families of " + n + " that a search finds", told.size(), families.size());
+        due("count(12)", house.get().count(12), families.size());
+        due("count(13)", house.get().count(13), n);
+        int first = families.size() <= 6 ? 0 : random(0, families.size() - 6);
+        for (int i = first; i < families.size() && i < first + 6; i++) {
+            due("divisor(" + i + ")", house.get().divisor(i), families.get(i)[0]);
+            due("root(" + i + ")", house.get().root(i), families.get(i)[1]);
+            checkTold(form, n, families.get(i), number(12 + 2 * i), number(13 + 2 * i));
         }
     }
 
-    /** The solutions that tell families, by divisor and root, if the least |y| of each is small. */
-    private Map<String, long[]> search(long[] f, int n) {
-        BigInteger top = big(f[0]).multiply(big(n)).abs();
-        top = top.multiply(d < 0 ? big(4) : unit[0].add(big(3))).divide(big(Math.abs(d))).sqrt().add(big(2));
-        if (top.bitLength() > 12) {
-            return null;
+    private void checkTooMany(int n) {
+        String got = "nothing";
+        try {
+            house.solve(n);
+        } catch (IllegalStateException e) {
+            got = "IllegalStateException";
         }
-        Map<String, long[]> told = new TreeMap<>();
-        for (long y = -top.longValue(); y <= top.longValue(); y++) {
-            long square = d * y * y + 4 * f[0] * n;
-            if (square < 0) {
-                continue;
-            }
-            long r = big(square).sqrt().longValue();
-            for (long w = -r; r * r == square && w <= r; w += Math.max(1, 2 * r)) {
-                if ((w - f[1] * y) % (2 * f[0]) == 0) {
-                    long[] found = {(w - f[1] * y) / (2 * f[0]), y};
-                    String family = familyOf(f, n, found[0], y);
-                    if (!told.containsKey(family) || tellsBefore(found, told.get(family))) {
-                        told.put(family, found);
-                    }
-                }
-            }
-        }
-        return told;
+        due("solve(" + n + ") throws", got, "IllegalStateException");
     }
 
-    private static boolean tellsBefore(long[] v, long[] w) {
-        long[] ofV = tellOrder(v);
-        long[] ofW = tellOrder(w);
-        for (int i = 0; i < ofV.length; i++) {
-            if (ofV[i] != ofW[i]) {
-                return ofV[i] < ofW[i];
-            }
-        }
-        return false;
-    }
-
-    private static long[] tellOrder(long[] v) {
-        boolean up = v[1] > 0 || (v[1] == 0 && v[0] > 0);
-        return new long[] {Math.abs(v[1]), Math.abs(v[0]), up ? 0 : 1, v[0] > 0 ? 0 : 1};
-    }
-
-    private String familyOf(long[] f, int n, long x, long y) {
-        long g = common(x, y);
-        BigInteger bigX = big(x / g);
-        BigInteger bigY = big(y / g);
-        // x s - y q = 1
-        BigInteger s = bigY.signum() == 0 ? bigX : bigY.abs().equals(BigInteger.ONE) ? BigInteger.ZERO
-            : bigX.modInverse(bigY.abs());
-        BigInteger q = bigY.signum() == 0 ? BigInteger.ZERO : bigX.multiply(s).subtract(BigInteger.ONE).divide(bigY);
-        BigInteger b = big(2 * f[0]).multiply(bigX).multiply(q)
-            .add(big(f[1]).multiply(bigX.multiply(s).add(q.multiply(bigY))))
-            .add(big(2 * f[2]).multiply(bigY).multiply(s));
-        return g + " " + b.mod(big(2 * Math.abs(n / (g * g))));
-    }
-
-    private void checkTold(long[] f, int n, BigInteger x, BigInteger y) {
+    private void checkTold(long[] f, int n, int[] family, BigInteger x, BigInteger y) {
         BigInteger value = big(f[0]).multiply(x).multiply(x).add(big(f[1]).multiply(x).multiply(y))
             .add(big(f[2]).multiply(y).multiply(y));
         due("what the form comes to at " + x + " " + y, value, big(n));
+        due("the divisor of " + x + " " + y, x.gcd(y), big(family[0]));
+        due("the root of " + x + " " + y, rootAt(f, n, family[0], x, y), big(family[1]));
+        BigInteger[] told = {x, y};
+        BigInteger[] least = told;
+        for (BigInteger[] v : near(f, told)) {
+            least = tellsBefore(v, least) ? v : least;
+        }
+        due("the solution that tells", x + " " + y, least[0] + " " + least[1]);
+    }
+
+    /** With x s - y q = g, the middle number of the form to which (x, q, y, s), all but q and s by g, takes f. */
+    private static BigInteger rootAt(long[] f, int n, int divisor, BigInteger x, BigInteger y) {
+        BigInteger g = big(divisor);
+        BigInteger v = x.divide(g);
+        BigInteger w = y.divide(g);
+        BigInteger s = w.signum() == 0 ? v : w.abs().equals(ONE) ? ZERO : v.modInverse(w.abs());
+        BigInteger q = w.signum() == 0 ? ZERO : v.multiply(s).subtract(ONE).divide(w);
+        BigInteger b = big(2 * f[0]).multiply(v).multiply(q)
+            .add(big(f[1]).multiply(v.multiply(s).add(q.multiply(w))))
+            .add(big(2 * f[2]).multiply(w).multiply(s));
+        return b.mod(big(2L * Math.abs(n / (divisor * divisor))));
+    }
+
+    /** Those to which the automorph takes the solution three times there and back, with either sign: |y| is convex. */
+    private List<BigInteger[]> near(long[] f, BigInteger[] told) {
         BigInteger[] m = automorph(f);
-        BigInteger there = m[2].multiply(x).add(m[3].multiply(y)).abs();
-        BigInteger back = m[0].multiply(y).subtract(m[2].multiply(x)).abs();
-        due("whether |y| is least at " + x + " " + y, y.abs().compareTo(there.min(back)) <= 0, true);
-        due("whether the sign is due at " + x + " " + y, y.signum() > 0 || (y.signum() == 0 && x.signum() > 0), true);
+        BigInteger[] back = {m[3], m[1].negate(), m[2].negate(), m[0]};
+        List<BigInteger[]> all = new ArrayList<>();
+        BigInteger[] v = told;
+        BigInteger[] w = told;
+        for (int i = 0; i < 4; i++) {
+            for (BigInteger[] point : List.of(v, w)) {
+                all.add(point);
+                all.add(new BigInteger[] {point[0].negate(), point[1].negate()});
+            }
+            v = apply(m, v);
+            w = apply(back, w);
+        }
+        return all;
+    }
+
+    private static BigInteger[] apply(BigInteger[] m, BigInteger[] v) {
+        return new BigInteger[] {m[0].multiply(v[0]).add(m[1].multiply(v[1])),
+            m[2].multiply(v[0]).add(m[3].multiply(v[1]))};
+    }
+
+    private static boolean tellsBefore(BigInteger[] v, BigInteger[] w) {
+        int byY = v[1].abs().compareTo(w[1].abs());
+        int byX = v[0].abs().compareTo(w[0].abs());
+        if (byY != 0 || byX != 0) {
+            return byY != 0 ? byY < 0 : byX < 0;
+        }
+        if (isUp(v) != isUp(w)) {
+            return isUp(v);
+        }
+        return v[0].signum() > w[0].signum();
+    }
+
+    private static boolean isUp(BigInteger[] v) {
+        return v[1].signum() > 0 || (v[1].signum() == 0 && v[0].signum() > 0);
     }
 
     private void checkTellers(int n) {
-        Set<Integer> all = new HashSet<>();
+        Set<Integer> all = new TreeSet<>();
         for (int b : rootsOf(n)) {
-            all.add(classOf(new long[] {n, b, ((long) b * b - d) / (4L * n)}));
+            all.add(classOf(formOf(n, b)));
         }
         due("tellers(" + n + ")", house.tellers(n), all.size());
-        due("count(14)", house.count(14), all.size());
+        due("count(14)", house.get().count(14), all.size());
         int i = 0;
-        for (int k = 0; k < names.size(); k++) {
-            if (all.contains(k)) {
-                due("teller(" + i + ")", house.teller(i), k);
-                i++;
+        for (int k : all) {
+            if (i < 40) {
+                due("teller(" + i + ")", house.get().teller(i), k);
             }
+            i++;
         }
     }
 }

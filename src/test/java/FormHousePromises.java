@@ -178,7 +178,8 @@ public final class FormHousePromises {
     private static void checkLaws(int d) {
         FormHouse x = with(d);
         int many = x.count(1);
-        for (int i = 0; i < 60; i++) {
+        // 14 calls a round: an object is good for 512.
+        for (int i = 0; i < 36; i++) {
             int j = i * 7919 % many;
             int k = i * 104729 % many;
             int l = i * 31 % many;
@@ -247,15 +248,9 @@ public final class FormHousePromises {
     private static void promise10() {
         int[] ds = {-84, -3299, 12180, -1048575, -1021020};
         for (int d : ds) {
-            FormHouse x = with(d);
-            for (int k = 0; k < x.count(1) && k < 60; k++) {
-                int made = x.count(3);
-                for (int i = 0; i < x.count(2); i++) {
-                    int e = x.exponent(k, i);
-                    due("an exponent in its bounds", e >= 0 && e < x.order(x.generator(i)) ? 1 : 0, 1);
-                    made = x.product(made, x.power(x.generator(i), e));
-                }
-                due("D = " + d + ": the product for class " + k, made, k);
+            int many = Math.min(with(d).count(1), 60);
+            for (int k = 0; k < many; k++) {
+                checkExponents(with(d), k);
             }
         }
         FormHouse x = with(-84);
@@ -265,6 +260,16 @@ public final class FormHousePromises {
         dueThrow("exponent(-1, 0)", () -> x.exponent(-1, 0), INDEX);
         dueThrow("exponent(0, 2)", () -> x.exponent(0, 2), INDEX);
         dueThrow("exponent(0, -1)", () -> x.exponent(0, -1), INDEX);
+    }
+
+    private static void checkExponents(FormHouse x, int k) {
+        int made = x.count(3);
+        for (int i = 0; i < x.count(2); i++) {
+            int e = x.exponent(k, i);
+            due("an exponent in its bounds", e >= 0 && e < x.order(x.generator(i)) ? 1 : 0, 1);
+            made = x.product(made, x.power(x.generator(i), e));
+        }
+        due("D = " + x.count(0) + ": the product for class " + k, made, k);
     }
 
     private static void promise11() {
