@@ -47,6 +47,11 @@ public final class FormHouseByDefinition {
             int f = random(2, 120);
             takeAndCheck(f * f * random(-1048576 / f / f, 1048576 / f / f));
         }
+        int[][] crowded = {{4913, -781456, 255}, {11809, -846720, 256}, {280612, -830304, 256}, {90112, 628992, 256},
+            {238521, -36980, 258}, {50653, -998001, 259}, {98865, -851760, 260}, {6625, 633600, 270}};
+        for (int[] row : crowded) {
+            takeAndSolve(row[0], row[1], row[2]);
+        }
         System.out.println(wrong == 0 ? "all answers follow from the terms" : wrong + " answers don't follow from the terms");
         if (wrong != 0) {
             System.exit(1);
@@ -61,6 +66,16 @@ public final class FormHouseByDefinition {
         int many = at.house.take(d);
         at.check();
         at.due("take", many, at.names.size());
+    }
+
+    private static void takeAndSolve(int d, int n, int many) {
+        FormHouseByDefinition at = new FormHouseByDefinition(d);
+        at.house.take(d);
+        at.findClasses();
+        at.findUnit();
+        long[] form = at.formOf(1, d & 1);
+        at.due("families of " + n, at.families(form, n).size(), many);
+        at.checkSolutions(form, n);
     }
 
     private static boolean canBe(int d) {

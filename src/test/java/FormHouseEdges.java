@@ -42,6 +42,7 @@ public final class FormHouseEdges {
         nextBelowRoot();
         nextBelow();
         wayOfNoSteps();
+        wayOfFormNearName();
         formAtHand();
         powersOfTerms();
         orderOfPrincipal();
@@ -480,6 +481,17 @@ public final class FormHouseEdges {
         due("count(11) of a reduced form that is no name", reduced.count(11), 0);
         due("count(10) of it", reduced.count(10) > 0, true);
         dueTaken(reduced);
+    }
+
+    private static void wayOfFormNearName() {
+        say("THE WAY: from it, next by next, to the first reduced form");
+        // Far from reduced, but 4096 a + b is the same as for the name (1, 1, 2).
+        FormHouse x = with(-7, 2, -4095, 2096129);
+        due("count(11)", x.count(11) > 0, true);
+        due("count(10)", x.count(10), x.count(11));
+        dueTaken(x);
+        due("solve(2)", x.solve(2), 2);
+        dueNumbers(x, 12, 1, 0, 1023, 1);
     }
 
     private static void formAtHand() {
@@ -1221,6 +1233,9 @@ public final class FormHouseEdges {
         FormHouse x = with(11809);
         due("solve(-846720)", x.solve(-846720), 256);
         due("count(12)", x.count(12), 256);
+        due("one less: solve(-781456) of 4913", with(4913).solve(-781456), 255);
+        due("solve(-830304) of 280612", with(280612).solve(-830304), 256);
+        due("solve(628992) of 90112", with(90112).solve(628992), 256);
         int before = 0;
         for (int i = 0; i < 256; i += 3) {
             int at = x.divisor(i) * 10000000 + x.root(i);
@@ -1248,7 +1263,8 @@ public final class FormHouseEdges {
 
     private static void solveTooMany() {
         say("there are more than 256 (nothing changes)");
-        int[][] tooMany = {{98865, -851760}, {6625, 633600}, {118825, -970200}};
+        // 258, 259, 260, 270 and 288 families; no case of 257 is known.
+        int[][] tooMany = {{238521, -36980}, {50653, -998001}, {98865, -851760}, {6625, 633600}, {118825, -970200}};
         for (int[] row : tooMany) {
             FormHouse x = with(row[0]);
             dueThrow("D = " + row[0] + ": solve(" + row[1] + ")", () -> x.solve(row[1]), STATE);
